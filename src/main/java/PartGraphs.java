@@ -208,7 +208,7 @@ public final class PartGraphs {
         }
 
         private boolean areTwoParts(int a, int b) {
-            return hasPart(a) && hasPart(b) && a != b;
+            return a >= 0 && a < partCount && b >= 0 && b < partCount && a != b;
         }
 
         private static int barIndex(int part, int direction) {
