@@ -50,6 +50,7 @@ public final class QuestionsTest {
         for (int no : NO_PARTS) {
             Due.same("before(" + no + ", 0)", -1, graphs.before(no, 0));
         }
+        row("before(1): the first part must", "0 ", k -> Told.of("part 0 0 part 0 0 cover 0 1").before(1, k));
         PartGraphs chain = Told.of("part 0 0 ".repeat(10) + "cover 9 0 cover 8 9 cover 7 8 cover 6 7 cover 5 6 "
                 + "cover 4 5 cover 3 4 cover 2 3 cover 1 2 ");
         row("before(0) of a chain that falls", "1 2 3 4 5 6 7 8 9 ", k -> chain.before(0, k));
@@ -169,10 +170,17 @@ public final class QuestionsTest {
             Due.no("free(" + no + ", 0)", graphs.free(no, 0));
             Due.no("free(" + no + ", -1)", graphs.free(no, -1));
         }
-        PartGraphs oneWay = Told.of("part 0 0 part 0 0 way 0 0 1 way 0 1 1 way 0 2 1 way 0 3 1 way 0 4 1 ");
-        Due.yes("free(0, 0): direction 5 is left", oneWay.free(0, 0));
-        oneWay.way(0, 5, 1);
-        Due.no("free(0, 0): none is left", oneWay.free(0, 0));
+        for (int left = 0; left < 6; left++) {
+            PartGraphs oneWay = Told.parts(2);
+            for (int direction = 0; direction < 6; direction++) {
+                if (direction != left) {
+                    oneWay.way(0, direction, 1);
+                }
+            }
+            Due.yes("free(0, 0): direction " + left + " is left", oneWay.free(0, 0));
+            oneWay.way(0, left, 1);
+            Due.no("free(0, 0): none is left", oneWay.free(0, 0));
+        }
         // In every direction a part is off and another is not: no direction is free of both.
         PartGraphs mixed = Told.of("part 0 0 part 0 0 part 0 0 way 0 0 1 way 0 0 2 way 0 1 1 way 0 2 2 way 0 3 2 "
                 + "way 0 4 2 way 0 5 2 ");

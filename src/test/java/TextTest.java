@@ -5,6 +5,8 @@ public final class TextTest {
     public static void main(String[] args) {
         promise2Unit();
         promise3ReadsEverySentence();
+        promise3EachSentenceDoesItsOwnCallAlone();
+        promise3LeavesNothingOfOlderProducts();
         promise3EmptiesTheText();
         promise3WordsAndNumbers();
         promise3MoreShouldCome();
@@ -52,6 +54,31 @@ public final class TextTest {
         Due.same("read() of blanks alone", 0, Told.read(graphs, " \n "));
         Due.text("no product is left", "", Told.textOf(graphs));
         Due.same("read() of a text on a product", 2, Told.read(Told.parts(10), TWO));
+    }
+
+    private static void promise3EachSentenceDoesItsOwnCallAlone() {
+        String three = "part 0 0 part 1 0 part 2 1 ";
+        String[] sentences = {"", "part 0 1 ", "cover 0 1 ", "way 0 1 2 ", "fasten 0 1 2 ", "hazard 0 1 ",
+            "hazard 0 3 ", "option 0 1 ", "option 0 2 ", "damage 0 1 "};
+        for (String sentence : sentences) {
+            Due.text("the product of " + sentence, three + sentence, Told.textOf(Told.of(three + sentence)));
+        }
+        Due.text("fasten, then cover", three + "cover 0 1 fasten 1 0 2 ",
+                Told.textOf(Told.of(three + "fasten 1 0 2 cover 0 1")));
+    }
+
+    private static void promise3LeavesNothingOfOlderProducts() {
+        PartGraphs graphs = new PartGraphs();
+        String rich = "part 1 1 part 2 2 cover 0 1 cover 1 0 way 0 5 1 way 1 0 0 hazard 0 1 hazard 1 2 option 0 1 "
+                + "option 1 2 damage 0 1 damage 1 2 fasten 0 1 3 ";
+        for (int round = 0; round < 3; round++) {
+            Due.same("read() of a rich product", 2, Told.read(graphs, rich));
+        }
+        for (int round = 0; round < 3; round++) {
+            Due.same("read() of bare parts", 2, Told.read(graphs, TWO));
+            Due.text("bare parts", TWO, Told.textOf(graphs));
+            Due.same("loose() of bare parts", 2, graphs.loose());
+        }
     }
 
     private static void promise3EmptiesTheText() {
@@ -156,6 +183,12 @@ public final class TextTest {
         reads("ten parts", ten, 10);
         reads("eleven parts", ten + "part 0 0", -91);
         reads("the word part behind ten parts", ten + "part", -91);
+        StringBuilder covers = new StringBuilder(ten);
+        for (int under = 1; under < 9; under++) {
+            covers.append("cover 0 ").append(under).append(' ');
+        }
+        reads("the last part that may be covered", covers + "cover 0 9", 10);
+        reads("no part more that may be covered", covers + "cover 0 9 cover 0 9", -1 - covers.length() - 16);
         String twenty = TWO + "fasten 0 1 0 ".repeat(20);
         reads("twenty fastenings", twenty, 2);
         reads("21 fastenings", twenty + "fasten 0 1 0", -1 - twenty.length());
