@@ -5,10 +5,31 @@ final class Due {
         Object answer();
     }
 
+    /** What the two calls that may throw are due to throw. */
+    static final String THROWS = "java.lang.ArrayIndexOutOfBoundsException";
+
     private static int asked = 0;
     private static int wrong = 0;
+    private static String sentence = "";
+    private static int askedBefore = 0;
 
     private Due() {
+    }
+
+    /** The words of the document that the answers behind it are about; each has answers of its own. */
+    static void sentence(String section, String words) {
+        endSentence();
+        Document.quote(section, words);
+        sentence = section + ", '" + words + "': ";
+        askedBefore = asked;
+    }
+
+    static void endSentence() {
+        if (!sentence.isEmpty() && asked == askedBefore) {
+            wrong++;
+            System.out.println("  " + sentence + "nothing was asked");
+        }
+        sentence = "";
     }
 
     static void same(String call, long due, long got) {
@@ -29,20 +50,22 @@ final class Due {
 
     /** The class of the exception must be that very one, not one below or above it. */
     static void refuses(String call, Call tried) {
-        Object got;
+        compare(call, THROWS, answerOf(tried));
+    }
+
+    static Object answerOf(Call call) {
         try {
-            got = tried.answer();
+            return call.answer();
         } catch (RuntimeException thrown) {
-            got = thrown.getClass().getName();
+            return thrown.getClass().getName();
         }
-        compare(call, "java.lang.ArrayIndexOutOfBoundsException", got);
     }
 
     static void compare(String call, Object due, Object got) {
         asked++;
         if (!due.equals(got)) {
             wrong++;
-            System.out.println("  " + call + " answered " + got + ", due is " + due);
+            System.out.println("  " + sentence + call + " answered " + got + ", due is " + due);
         }
     }
 
