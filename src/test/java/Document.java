@@ -3,6 +3,7 @@ import java.nio.file.Files;
 import java.nio.file.Path;
 import java.util.LinkedHashMap;
 import java.util.Map;
+import java.util.TreeSet;
 
 /** The document's sentences, and which of them have a test: each word of them must be quoted by one. */
 final class Document {
@@ -37,6 +38,24 @@ final class Document {
         String name = headAndBody[0].split(":")[0];
         SECTIONS.put(name, body);
         QUOTED.put(name, new boolean[body.length()]);
+    }
+
+    /** The members of the public face, written as the Java machine writes them; none if there is no document. */
+    static TreeSet<String> face() {
+        TreeSet<String> face = new TreeSet<>();
+        String body = SECTIONS.getOrDefault("The public face", "{}");
+        String members = body.substring(body.indexOf('{') + 1, body.indexOf('}')).trim();
+        for (String member : members.isEmpty() ? new String[0] : members.split("; ?")) {
+            face.add(asTheMachineWrites(member));
+        }
+        return face;
+    }
+
+    private static String asTheMachineWrites(String member) {
+        String withoutValue = member.replaceAll(" = .*", "");
+        String typesAlone = withoutValue.replaceAll("(\\w+) \\w+(?=[,)])", "$1").replace(", ", ",");
+        String withClass = typesAlone.replaceAll(" (?!PartGraphs)(\\w+)(\\(.*|$)", " PartGraphs.$1$2");
+        return withClass.replace("throws ", "throws java.lang.");
     }
 
     static void quote(String section, String words) {

@@ -4,7 +4,7 @@ import java.lang.reflect.Method;
 import java.lang.reflect.Modifier;
 import java.util.TreeSet;
 
-/** The class shows the document's face and nothing beside it. */
+/** The class shows the document's face and nothing beside it; run in the project's folder. */
 public final class FaceTest {
     private static final String[] FACE = {
         "public static final int PartGraphs.NONE",
@@ -36,6 +36,9 @@ public final class FaceTest {
         for (String member : FACE) {
             due.add(member);
         }
+        Document.open();
+        TreeSet<String> told = Document.face();
+        Due.compare("the face that the document tells", told.isEmpty() ? told : due, told);
         TreeSet<String> seen = new TreeSet<>();
         for (Field field : PartGraphs.class.getDeclaredFields()) {
             addSeen(seen, field.getModifiers(), field.toString());
